@@ -1,0 +1,24 @@
+/** Runs every test of the project; the argument is the path of Publicanry.java. */
+public final class AllTests {
+    private AllTests() {
+    }
+
+    public static void main(String[] args) throws Exception {
+        FaceTest.run(args[0]);
+        LandTest.run();
+        LawTest.run();
+        PeopleTest.run();
+        CompanyTest.run();
+        LotTest.run();
+        CollectTest.run();
+        TreasuryTest.run();
+        SuitTest.run();
+        GovernorTest.run();
+        ClerksTest.run();
+        AskedTest.run();
+        AnyCallsTest.run();
+        if (!Check.close()) {
+            System.exit(1);
+        }
+    }
+}
