@@ -16,6 +16,7 @@ public final class AllTests {
         GovernorTest.run();
         ClerksTest.run();
         AskedTest.run();
+        FullTest.run();
         AnyCallsTest.run();
         if (!Check.close()) {
             System.exit(1);

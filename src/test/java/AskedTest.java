@@ -44,6 +44,14 @@ final class AskedTest {
         }
         p.pass(1);
         Check.isText("all of it", p.tell(1), "1: 31 houses, revolt, burnt, owes 248");
+        Publicanry q = new Publicanry();
+        q.village(1, 600, 10, 9);
+        q.company(100, 0);
+        q.join(0, 9);
+        Made.lease(q, 0, Made.PASTURE, 1, 1, 4);
+        q.force(0, 2);
+        q.pass(2);
+        Check.isText("owes 1", q.tell(0), "0: 1 houses, owes 1");
         Check.noSuch("village 2", p, () -> p.tell(2));
         Check.noSuch("village -1", p, () -> p.tell(-1));
     }
@@ -54,6 +62,8 @@ final class AskedTest {
         Publicanry q = Made.rich();
         q.company(300, 2);
         q.join(1, 7);
+        q.join(1, 4);
+        q.shareOut(1, 9);
         q.village(20, 100, 30, 4);
         q.edict(1, 33, 2);
         Made.lease(q, 0, Made.TENTH, 3, 3, 130);
@@ -81,7 +91,7 @@ final class AskedTest {
         d = d * 31 + v;
     }
 
-    private static long byHand(Publicanry p) {
+    static long byHand(Publicanry p) {
         d = 58260;
         for (int what = 0; what <= 16; what++) {
             mix(p.land(what));

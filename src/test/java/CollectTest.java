@@ -10,6 +10,7 @@ final class CollectTest {
         hearthWithCoins();
         pasture();
         unrestHides();
+        unrestByFours();
         order();
         term();
         letOn();
@@ -17,6 +18,7 @@ final class CollectTest {
         letOnInRevolt();
         levy();
         wouldBring();
+        bestForceOfLittleGrain();
     }
 
     private static String levy(Publicanry p, int village, int duty) {
@@ -103,6 +105,28 @@ final class CollectTest {
         Check.isText("hidden", levy(p, 0, 0), "0 63 36 63 0 0");
     }
 
+    private static void unrestByFours() {
+        Publicanry p = Made.rich();
+        p.lot(0, 1, 1, 0);
+        for (int k = 0; k < 3; k++) {
+            p.quarter(0);
+        }
+        p.pass(1);
+        for (int k = 0; k < 4; k++) {
+            p.quarter(0);
+        }
+        Check.isText("with unrest 20", Check.row(p.ofVillage(0, 7), p.wouldBring(0, 0), p.wouldBring(0, 3)),
+            Check.row(20, 2 * (63 - 43), 2 * (86 - 26)));
+        Publicanry q = Made.rich();
+        q.lot(0, 1, 1, 0);
+        q.quarter(0);
+        q.quarter(0);
+        q.pass(2);
+        Check.isText("with unrest 4", Check.row(q.ofVillage(0, 7), q.wouldBring(0, 0)), Check.row(4, 2 * (63 - 27)));
+        q.pass(1);
+        Check.isText("with unrest 3", Check.row(q.ofVillage(0, 7), q.wouldBring(0, 0)), Check.row(3, 2 * (63 - 23)));
+    }
+
     /** What one levy takes, the next one finds no more; unrest of the first hides from the second. */
     private static void order() {
         Publicanry p = Made.rich();
@@ -182,6 +206,7 @@ final class CollectTest {
         Check.is("for 1", p.letOn(0, 0, 1), 1);
         Check.isRefused("let on already", p, () -> p.letOn(0, 0, 1));
         p.pass(2);
+        Check.is("1 is brought", p.ofCompany(0, 11), 1);
         Check.isRefused("of a lot that is over", p, () -> p.letOn(0, 0, 1));
     }
 
@@ -247,5 +272,19 @@ final class CollectTest {
         Check.noSuch("lot -1", p, () -> p.wouldBring(-1, 0));
         Check.noSuch("best force of lot 2", p, () -> p.bestForce(2));
         Check.noSuch("best force of lot -1", p, () -> p.bestForce(-1));
+    }
+
+    private static void bestForceOfLittleGrain() {
+        Publicanry p = new Publicanry();
+        p.village(90, 0, 0, 9);
+        p.lot(0, 1, 1, 0);
+        p.edict(0, 300, 0);
+        p.pass(4);
+        p.cut(0);
+        p.clear(0, 100);
+        p.pass(1);
+        Check.isText("grain of 30 is there", Check.row(p.ofVillage(0, 4), p.wouldBring(0, 0), p.wouldBring(0, 1),
+            p.wouldBring(0, 2), p.wouldBring(0, 3)), "30 46 60 60 60");
+        Check.is("of several the smallest force", p.bestForce(0), 1);
     }
 }

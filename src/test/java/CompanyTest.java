@@ -86,6 +86,11 @@ final class CompanyTest {
         Check.isText("of several the smallest numbers", told(p, 0), "1 1 1 0 0");
         p.shareOut(0, 6);
         Check.isText("1 more each", told(p, 0), "3 2 2 1 1");
+        Publicanry r = new Publicanry();
+        r.company(0, 0);
+        r.join(0, 1);
+        r.shareOut(0, 3);
+        Check.isText("to one with a share of 1", told(r, 0), "3");
         Publicanry q = new Publicanry();
         q.company(0, 0);
         q.join(0, 1);

@@ -24,7 +24,8 @@ final class GovernorTest {
         Check.isRefused("amount 500", p, () -> p.gift(0, 500));
         Check.noSuch("company 1", p, () -> p.gift(1, 0));
         Check.noSuch("company -1", p, () -> p.gift(-1, 1));
-        Check.is("all there is", p.gift(0, 330), 396);
+        Check.is("1", p.gift(0, 1), 67);
+        Check.is("all there is", p.gift(0, 329), 396);
     }
 
     private static void quarter() {
@@ -101,6 +102,14 @@ final class GovernorTest {
         q.survey(0);
         Made.lease(q, 0, Made.TENTH, 1, 3, 30);
         Check.is("52 is below 53", q.remit(3), 10);
+        Publicanry r = Made.rich();
+        r.village(10, 119, 0, 9);
+        r.war(2);
+        r.pass(3);
+        r.clear(1, 1);
+        r.survey(1);
+        Made.lease(r, 0, Made.TENTH, 2, 1, 30);
+        Check.isText("62 is below 63", Check.row(r.ofVillage(1, 9), r.remit(0)), "62 30");
     }
 
     private static void remitByGifts() {

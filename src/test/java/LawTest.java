@@ -5,6 +5,7 @@ final class LawTest {
 
     static void run() {
         due();
+        dueIsRoundedDown();
         edict();
         edictWrong();
         exempt();
@@ -23,6 +24,23 @@ final class LawTest {
         Check.noSuch("due of village -1", p, () -> p.due(-1, 0, true));
         Check.noSuch("due of duty 3", p, () -> p.due(0, 3, true));
         Check.noSuch("due of duty -1", p, () -> p.due(0, -1, false));
+    }
+
+    private static void dueIsRoundedDown() {
+        Publicanry p = new Publicanry();
+        p.village(1, 23, 99, 9);
+        p.edict(0, 37, 0);
+        p.edict(1, 1, 0);
+        p.pass(5);
+        Check.is("a yield", p.ofVillage(0, 9), 27);
+        Check.isText("27 * 37 / 1000, 117 * 1 / 100", Check.row(p.due(0, 0, true), p.due(0, 1, true)), "0 1");
+        p.edict(0, 38, 0);
+        p.edict(1, 0, 0);
+        p.pass(4);
+        Check.is("a yield again", p.ofVillage(0, 9), 13);
+        p.edict(0, 75, 0);
+        p.pass(4);
+        Check.isText("31 * 75 / 1000", Check.row(p.ofVillage(0, 9), p.due(0, 0, true)), "31 2");
     }
 
     private static void edict() {

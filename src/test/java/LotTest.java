@@ -142,6 +142,9 @@ final class LotTest {
             "3 29 -1 0 0");
         Check.isRefused("awarded again", p, () -> p.award(0));
         Check.is("without a bid", p.award(1), -1);
+        p.lot(1, 1, 3, 1);
+        p.bid(2, 3, 1);
+        Check.is("with a bid of 1", p.award(3), 2);
         bids(p, 2, 30, 0, 0);
         Check.is("just the minimum", p.award(2), 0);
     }
@@ -214,6 +217,7 @@ final class LotTest {
         bids(p, 0, 700, 700, 710);
         Check.is("won with a default at once", p.award(0), 2);
         Check.isText("71 to the first, what is left to the next", chests(p), "71 29 0");
+        Check.isRefused("what a ring pays, without a partner", p, () -> p.shareOut(0, 1));
         Check.isText("a price of 0 is paid", Check.row(p.ofLot(0, 7), p.ofLot(0, 4), p.ofCompany(2, 5)), "0 1 0");
     }
 

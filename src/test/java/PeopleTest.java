@@ -99,6 +99,18 @@ final class PeopleTest {
         q.pass(1);
         Check.isText("2 are bought for 3 each, 4 borrowed for 4, 2 paid back of 80 / 2",
             Check.row(q.ofVillage(0, 0), q.ofVillage(0, 4), q.ofVillage(0, 5), q.ofVillage(0, 6)), "5 0 0 38");
+        Publicanry r = new Publicanry();
+        r.village(8, 0, 0, 1);
+        r.company(2000, 0);
+        r.join(0, 99);
+        r.pass(4);
+        Made.lease(r, 0, Made.HEARTH, 1, 1, 4);
+        r.force(0, 3);
+        r.pass(2);
+        r.sue(0, 2);
+        Check.isText("12 of a suit", Check.row(r.ofVillage(0, 5), r.ofVillage(0, 6)), "12 86");
+        r.pass(1);
+        Check.isText("4 are bought, 4 borrowed", Check.row(r.ofVillage(0, 0), r.ofVillage(0, 5), r.ofVillage(0, 6)), "7 0 51");
     }
 
     private static void revolt() {

@@ -21,6 +21,10 @@ final class SuitTest {
         Check.is("won", p.sue(0, 2), 1);
         Check.isText("twice 7", Check.row(p.ofVillage(0, 5), p.ofCompany(0, 2)), Check.row(14, 356 + 27 - 14));
         Check.isText("unrest, suits", Check.row(p.ofVillage(0, 7), p.land(10), p.land(11), p.land(12), p.land(9)), "0 1 0 0 0");
+        Publicanry q = Made.collected(Made.HEARTH, 3);
+        q.quarter(0);
+        q.sue(0, 2);
+        Check.is("unrest is 2 less", q.ofVillage(0, 7), 3);
         Check.is("sued for", p.levy(0, 2, 5), 1);
         Check.isRefused("once for each levy", p, () -> p.sue(0, 2));
     }

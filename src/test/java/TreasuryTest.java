@@ -44,6 +44,8 @@ final class TreasuryTest {
         Check.noSuch("company -1", p, () -> p.deliver(-1, 1));
         Check.is("100 for 200", p.deliver(0, 100), 594);
         Check.is("nothing is left", p.ofCompany(0, 2), 0);
+        p.join(0, 1);
+        Check.is("1 for 2", p.deliver(0, 1), 597);
     }
 
     private static void creditIsUsed() {
@@ -70,6 +72,15 @@ final class TreasuryTest {
         q.pass(1);
         Check.isText("20 remitted, 15 by credit, 5 in coins", Check.row(q.ofLot(0, 9), q.ofCompany(0, 8), q.ofCompany(0, 12)),
             "0 0 45");
+        Publicanry r = Made.rich();
+        r.pass(3);
+        r.village(10, 600, 0, 9);
+        Made.lease(r, 0, Made.TENTH, 3, 2, 80);
+        r.remit(0);
+        r.deliver(0, 50);
+        r.pass(1);
+        Check.isText("20 remitted, 20 by credit", Check.row(r.ofLot(0, 9), r.ofCompany(0, 8), r.ofCompany(0, 12)),
+            "0 130 40");
     }
 
     private static void defaultAtOnce() {
