@@ -5,11 +5,17 @@ public final class AllTests {
 
     public static void main(String[] args) throws Exception {
         FaceTest.run(args[0]);
+        ThrowsTellingTest.run();
+        ThrowsAskingTest.run();
         LandTest.run();
+        EdgesOfLandTest.run();
         LawTest.run();
         PeopleTest.run();
+        EdgesOfPeopleTest.run();
         CompanyTest.run();
+        EdgesOfCompaniesTest.run();
         LotTest.run();
+        EdgesOfLotsTest.run();
         CollectTest.run();
         TreasuryTest.run();
         SuitTest.run();

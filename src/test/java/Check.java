@@ -43,6 +43,16 @@ final class Check {
         throwing(what, of, call, IllegalStateException.class);
     }
 
+    static void isDone(String what, Runnable call) {
+        String got = "nothing";
+        try {
+            call.run();
+        } catch (RuntimeException thrown) {
+            got = thrown.getClass().getName();
+        }
+        tell(got.equals("nothing"), what + " throws", got, "nothing");
+    }
+
     private static void throwing(String what, Publicanry of, Runnable call, Class<?> want) {
         long before = of.digest();
         String got = "nothing";

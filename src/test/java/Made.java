@@ -31,4 +31,46 @@ final class Made {
         p.pass(2);
         return p;
     }
+
+    /** Two of all: villages, companies with 396 coins, lots that are offered (tenth and hearths of both villages). */
+    static Publicanry two() {
+        Publicanry p = new Publicanry();
+        for (int k = 0; k < 2; k++) {
+            p.village(10, 500, 100, 9);
+            p.company(2000, 0);
+            p.join(k, 99);
+        }
+        p.lot(TENTH, 3, 2, 0);
+        p.lot(HEARTH, 3, 2, 0);
+        return p;
+    }
+
+    /** The same, both lots leased to company 0 at 20. */
+    static Publicanry leased() {
+        Publicanry p = two();
+        for (int k = 0; k < 2; k++) {
+            p.bid(0, k, 20);
+            p.award(k);
+        }
+        return p;
+    }
+
+    /** Shares out so much of the chest of a company that just these coins are left. */
+    static void leave(Publicanry p, int company, int coins) {
+        int more = p.ofCompany(company, 2) - coins;
+        if (more > 0) {
+            p.shareOut(company, more);
+        }
+        Check.is("what is left", p.ofCompany(company, 2), coins);
+    }
+
+    /** A province whose treasury has just these coins. */
+    static Publicanry withTreasury(int coins) {
+        Publicanry p = rich();
+        if (coins > 0) {
+            lease(p, 0, PASTURE, 1, 1, coins);
+        }
+        Check.is("the treasury", p.land(6), coins);
+        return p;
+    }
 }
