@@ -17,10 +17,15 @@ public final class AllTests {
         LotTest.run();
         EdgesOfLotsTest.run();
         CollectTest.run();
+        EdgesOfCollectingTest.run();
         TreasuryTest.run();
+        EdgesOfTreasuryTest.run();
         SuitTest.run();
+        EdgesOfSuitsTest.run();
         GovernorTest.run();
+        EdgesOfGovernorTest.run();
         ClerksTest.run();
+        EdgesOfClerksTest.run();
         AskedTest.run();
         FullTest.run();
         AnyCallsTest.run();
