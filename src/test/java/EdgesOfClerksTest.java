@@ -14,6 +14,8 @@ final class EdgesOfClerksTest {
         chestAsFarAsItGoes();
         noLevyNoUnrest();
         byTheLawAsItIs();
+        exemptByTheStone();
+        agentsVillagesAreLeased();
         directAsIfItHadEnough();
         directIsWhatComes();
         guard();
@@ -195,6 +197,33 @@ final class EdgesOfClerksTest {
         p.pass(5);
         Check.isText("144 by the law, exempt by the law", Check.row(p.due(0, 0, true), p.due(1, 0, true)), "144 0");
         Check.is("not by the stone", p.direct(0), 2 * (144 - 36) - 8);
+    }
+
+    /** Its stone tells that it is exempt, the law of the third year that it is not. */
+    private static void exemptByTheStone() {
+        Publicanry p = new Publicanry();
+        p.company(1000, 0);
+        p.join(0, 99);
+        p.edict(0, 100, 1);
+        p.pass(4);
+        p.village(10, 600, 0, 9);
+        Made.lease(p, 0, Made.HEARTH, 1, 5, 40);
+        p.edict(0, 100, 0);
+        p.clerks(Made.TENTH, true);
+        p.pass(5);
+        Check.isText("due", Check.row(p.due(0, 0, false), p.due(0, 0, true), p.direct(0)), Check.row(0, 36, 2 * 27 - 4));
+        p.pass(1);
+        Check.is("brought", p.law(0, 4), 54);
+    }
+
+    private static void agentsVillagesAreLeased() {
+        Publicanry p = Made.rich();
+        Made.lease(p, 0, Made.TENTH, 1, 2, 40);
+        p.letOn(0, 0, 1);
+        p.clerks(Made.TENTH, true);
+        Check.is("direct", p.direct(0), 0);
+        p.pass(2);
+        Check.isText("clerks ask nothing of them", Check.row(p.law(0, 4), p.land(6)), "0 20");
     }
 
     private static void directAsIfItHadEnough() {

@@ -20,6 +20,7 @@ final class EdgesOfCollectingTest {
         agentNotInRevolt();
         agentBorrows();
         latestLevyAlone();
+        wouldBringByTheStone();
         bestForceIsTheSmallest();
     }
 
@@ -65,7 +66,7 @@ final class EdgesOfCollectingTest {
                 p.pass(wait);
             }
         }
-        while (p.ofVillage(0, 7) < unrest) {
+        for (int k = 0; k < 7 && p.ofVillage(0, 7) < unrest; k++) {
             p.quarter(0);
         }
         Check.is("unrest", p.ofVillage(0, 7), unrest);
@@ -310,11 +311,13 @@ final class EdgesOfCollectingTest {
         Check.is("15 is no revolt yet", p.ofVillage(0, 10), 0);
         p.pass(1);
         Check.isText("both agents pay", Check.row(p.ofCompany(0, 11), p.ofVillage(0, 10)), "80 1");
+        int coins = p.ofCompany(0, 2);
         Made.lease(p, 0, Made.TENTH, 3, 1, 4);
         p.letOn(1, 0, 30);
         p.letOn(1, 1, 50);
         p.pass(4);
         Check.isText("one of them does", Check.row(p.ofCompany(0, 11), p.ofVillage(0, 10), p.levy(0, 0, 0)), "130 1 0");
+        Check.is("its chest", p.ofCompany(0, 2), coins - 4 + 50);
     }
 
     private static void agentBorrows() {
@@ -341,6 +344,18 @@ final class EdgesOfCollectingTest {
         Made.lease(p, 1, Made.TENTH, 1, 1, 4);
         p.pass(4);
         Check.isText("of lot 1", Check.row(p.levy(0, 0, 0), p.levy(0, 0, 4), p.levy(0, 0, 5)), "2 1 0");
+    }
+
+    private static void wouldBringByTheStone() {
+        Publicanry p = new Publicanry();
+        p.village(10, 0, 0, 1);
+        p.edict(2, 9, 0);
+        p.lot(Made.HEARTH, 1, 1, 0);
+        p.pass(4);
+        Check.isText("20 by the stone, 90 by the law", Check.row(p.due(0, 2, false), p.due(0, 2, true), p.wouldBring(0, 2),
+            p.wouldBring(0, 3)), "20 90 22 27");
+        p.cut(0);
+        Check.isText("90 by a new stone", Check.row(p.wouldBring(0, 2), p.wouldBring(0, 3)), "98 123");
     }
 
     private static void bestForceIsTheSmallest() {

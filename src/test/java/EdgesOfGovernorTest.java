@@ -6,6 +6,7 @@ final class EdgesOfGovernorTest {
     static void run() {
         troopsAreLackingAny();
         badIsBelow();
+        badByTheRegister();
         badWithoutARegister();
         shareOfTheBad();
         halfOfItMore();
@@ -51,8 +52,8 @@ final class EdgesOfGovernorTest {
             p.village(10, 100, 0, 9);
             Made.lease(p, 0, Made.TENTH, 2, 1, 30);
             p.pass(1);
-            while (p.ofVillage(1, 1) < registers[k]) {
-                p.clear(1, Math.min(registers[k] - p.ofVillage(1, 1), 100));
+            for (int had = 100; had < registers[k]; had += 100) {
+                p.clear(1, Math.min(registers[k] - had, 100));
             }
             p.survey(1);
             Made.lease(p, 0, Made.PASTURE, 2, 1, 30);
@@ -61,6 +62,19 @@ final class EdgesOfGovernorTest {
             Check.isText("a register of " + registers[k], Check.row(p.ofVillage(1, 8), p.ofVillage(1, 9), p.remit(lot)),
                 Check.row(registers[k], 105, remitted[k]));
         }
+    }
+
+    /** Land that was cleared behind the harvest does not count till it is surveyed. */
+    private static void badByTheRegister() {
+        Publicanry p = Made.rich();
+        p.village(10, 100, 0, 9);
+        p.pass(3);
+        for (int k = 0; k < 5; k++) {
+            p.clear(1, 100);
+        }
+        Check.is("not by fields of 600", p.remit(Made.lease(p, 0, Made.TENTH, 2, 1, 30)), 0);
+        p.survey(1);
+        Check.is("by a register of 600", p.remit(Made.lease(p, 0, Made.HEARTH, 2, 1, 30)), 30);
     }
 
     private static void badWithoutARegister() {

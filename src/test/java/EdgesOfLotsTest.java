@@ -15,6 +15,7 @@ final class EdgesOfLotsTest {
         theRingAsItIsAwarded();
         aTenthOfWhatIsLess();
         toEachWhoseBidCounts();
+        theRingAheadOfTheInstalment();
         noSecondOne();
         pledgedTillItIsOver();
         nothingIsPledgedForThree();
@@ -213,6 +214,19 @@ final class EdgesOfLotsTest {
         awarded(r, 0, 50, 50, 50, 100);
         Check.isText("10, then 5, then nothing", chests(r), "406 401 396 0");
         Check.is("a price of 0 is no default", r.ofCompany(3, 5), 0);
+    }
+
+    /** 25 are less by 10 for the ring, so that a price of 20 is a default; 30 are just enough. */
+    private static void theRingAheadOfTheInstalment() {
+        int[] coins = {25, 29, 30};
+        int[] banned = {1, 1, 0};
+        for (int k = 0; k < coins.length; k++) {
+            Publicanry p = companies(1000, 1, 1);
+            Made.leave(p, 0, coins[k]);
+            awarded(p, 20, 120, 20);
+            Check.isText("with " + coins[k], Check.row(p.ofCompany(1, 2), p.ofCompany(0, 12), p.ofCompany(0, 5)),
+                Check.row(406, coins[k] - 10, banned[k]));
+        }
     }
 
     private static void noSecondOne() {

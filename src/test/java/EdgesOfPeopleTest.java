@@ -11,6 +11,7 @@ final class EdgesOfPeopleTest {
         debtsGrowAheadOfBorrowing();
         flightAboveTwelve();
         aFifthOfHouses();
+        sellByTheHousesThatAreLeft();
         unrestIsOneLess();
         unrestAtMost();
         revoltFromTwelve();
@@ -152,6 +153,23 @@ final class EdgesOfPeopleTest {
         q.village(2, 0, 0, 1);
         q.pass(20);
         Check.isText("1 stays at least", Check.row(q.ofVillage(0, 0), q.ofVillage(0, 13)), "1 1");
+    }
+
+    /** Hearths and pastures let it borrow 618, so that houses flee in autumn and in winter. */
+    private static void sellByTheHousesThatAreLeft() {
+        Publicanry p = Made.rich();
+        p.edict(1, 60, 0);
+        p.edict(2, 9, 0);
+        p.pass(4);
+        p.village(10, 100, 600, 9);
+        p.force(0, 3);
+        Made.lease(p, 0, Made.PASTURE, 2, 1, 4);
+        Made.lease(p, 0, Made.HEARTH, 2, 1, 4);
+        p.pass(2);
+        Check.isText("618 are halved", Check.row(p.ofVillage(1, 0), p.ofVillage(1, 4), p.ofVillage(1, 6)), "8 140 309");
+        p.pass(1);
+        Check.isText("132 of grain for 7 houses: 90 are sold, 154 owed", Check.row(p.ofVillage(1, 0), p.ofVillage(1, 4),
+            p.ofVillage(1, 5), p.ofVillage(1, 6)), "7 42 26 0");
     }
 
     private static void unrestIsOneLess() {

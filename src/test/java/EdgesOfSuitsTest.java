@@ -16,6 +16,8 @@ final class EdgesOfSuitsTest {
         inTheYearOfIt();
         bannedPaysStill();
         dueAsItWasThen();
+        theCompanyOfTheLatestLevy();
+        notWhatLeviesBrought();
     }
 
     private static void judgesForIt() {
@@ -208,5 +210,26 @@ final class EdgesOfSuitsTest {
         Check.isText("fled", Check.row(p.ofVillage(0, 0), p.due(0, 2, true), p.levy(0, 2, 3)), "8 16 20");
         p.sue(0, 2);
         Check.is("twice 7", p.ofVillage(0, 5), 14);
+    }
+
+    private static void theCompanyOfTheLatestLevy() {
+        Publicanry p = Made.collected(Made.HEARTH, 3);
+        p.company(1000, 0);
+        p.join(1, 99);
+        p.gift(0, 100);
+        p.pass(2);
+        Made.lease(p, 1, Made.HEARTH, 1, 1, 40);
+        p.force(1, 3);
+        p.pass(2);
+        int coins = p.ofCompany(0, 2);
+        Check.is("gifts of the one before do not count", p.sue(0, 2), 1);
+        Check.isText("that of the latest levy pays", Check.row(p.ofCompany(0, 2), p.ofCompany(1, 2), p.ofCompany(0, 9)),
+            Check.row(coins, 396 - 40 + 27 - 14, 100));
+    }
+
+    private static void notWhatLeviesBrought() {
+        Publicanry p = Made.collected(Made.HEARTH, 3);
+        p.sue(0, 2);
+        Check.isText("brought, and the gain of it", Check.row(p.ofCompany(0, 11), p.ofCompany(0, 12)), "27 40");
     }
 }

@@ -9,6 +9,7 @@ final class EdgesOfTreasuryTest {
         chestIsJustEnough();
         landAtMostWhatIsPledged();
         landOfThatLotAlone();
+        bannedInAnySeason();
         allOthersAreOver();
         defaultLotByLot();
         creditAsFarAsItGoes();
@@ -112,6 +113,19 @@ final class EdgesOfTreasuryTest {
         Made.leave(q, 1, 0);
         Made.lease(q, 1, Made.TENTH, 1, 1, 43);
         Check.isText("all of its land", standing(q, 1), "0 0 1 0 10");
+    }
+
+    private static void bannedInAnySeason() {
+        for (int season = 0; season < 4; season++) {
+            Publicanry p = Made.rich();
+            if (season > 0) {
+                p.pass(season);
+            }
+            Made.leave(p, 0, 10);
+            Made.lease(p, 0, Made.TENTH, 1, 1, 40);
+            p.pass(20);
+            Check.isText("banned for good since season " + season, Check.row(p.ofCompany(0, 5), p.ofLot(0, 4)), "1 2");
+        }
     }
 
     private static void allOthersAreOver() {
