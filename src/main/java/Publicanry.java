@@ -418,15 +418,19 @@ public final class Publicanry {
 
     /** How many partners come before this one as what is left over is told. */
     private static int placeByRest(Company of, int partner, int amount, int all) {
-        long rest = (long) amount * of.shares[partner] % all;
+        long rest = restOf(of, partner, amount, all);
         int before = 0;
         for (int k = 0; k < of.partners; k++) {
-            long other = (long) amount * of.shares[k] % all;
+            long other = restOf(of, k, amount, all);
             if (other > rest || other == rest && k < partner) {
                 before++;
             }
         }
         return before;
+    }
+
+    private static long restOf(Company of, int partner, int amount, int all) {
+        return all < 1 ? 0 : (long) amount * of.shares[partner] % all;
     }
 
     public int ring(int company, int ring) throws IndexOutOfBoundsException, IllegalArgumentException {

@@ -1,10 +1,11 @@
-/** Runs every test of the project; the argument is the path of Publicanry.java. */
+/** Runs every test of the project; the arguments are the paths of Publicanry.java and of README.md. */
 public final class AllTests {
     private AllTests() {
     }
 
     public static void main(String[] args) throws Exception {
         FaceTest.run(args[0]);
+        LanguageTest.run(args[0]);
         ThrowsTellingTest.run();
         ThrowsAskingTest.run();
         LandTest.run();
@@ -29,6 +30,8 @@ public final class AllTests {
         AskedTest.run();
         FullTest.run();
         AnyCallsTest.run();
+        ModelTest.run();
+        ReadmeTest.run(args[1], args[0]);
         if (!Check.close()) {
             System.exit(1);
         }
