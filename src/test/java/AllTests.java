@@ -31,6 +31,7 @@ public final class AllTests {
         FullTest.run();
         AnyCallsTest.run();
         ModelTest.run();
+        UnreachedTest.run();
         ReadmeTest.run(args[1], args[0]);
         if (!Check.close()) {
             System.exit(1);
