@@ -1,3 +1,9 @@
+import java.lang.reflect.InvocationTargetException;
+import java.lang.reflect.Method;
+import java.lang.reflect.Modifier;
+import java.util.Arrays;
+import java.util.List;
+
 /**
  * Whole lives of an object, 512 calls each, against the Model: each answer, each exception, and the digest behind each
  * call that tells something. One object is asked everything between these calls and a second one nothing, so that it
@@ -6,8 +12,15 @@
 final class ModelTest {
     private static final int RUNS = 300;
     private static final int CALLS = 512;
-    private static final int TELLING = 26;
-    private static final int KINDS = 43;
+    /** The kinds of calls, by their numbers: those that tell something, then those that ask. */
+    private static final String[] CALLS_OF_FACE = {"village", "clear", "survey", "war", "edict", "cut", "company", "join",
+        "shareOut", "ring", "lot", "bid", "award", "force", "letOn", "deliver", "sue", "bench", "gift", "quarter", "remit",
+        "recall", "clerks", "call", "pass", "ofVillage", "due", "levy", "law", "ofCompany", "partner", "ofLot", "land", "tell",
+        "gain", "wouldBring", "bestForce", "votes", "harvest", "direct", "wouldWin", "isSound", "digest"};
+    private static final int TELLING = 25;
+    private static final int KINDS = CALLS_OF_FACE.length;
+    private static final Method[] OF_CLASS = methodsOf(Publicanry.class);
+    private static final Method[] OF_MODEL = methodsOf(Model.class);
 
     private long seed;
     private final Publicanry asked = new Publicanry();
@@ -105,14 +118,14 @@ final class ModelTest {
         for (int k = 0; k < CALLS; k++) {
             int kind = k < 12 ? (k % 3 == 0 ? 0 : k % 3 == 1 ? 6 : 7) : kindOfNext();
             int[] with = numbersOf(kind);
-            String want = tried(kind, null, with);
-            String got = tried(kind, asked, with);
+            String want = tried(model, kind, with);
+            String got = tried(asked, kind, with);
             boolean isRight = got.equals(want);
             if (kind < TELLING && !want.startsWith("java.")) {
-                isRight = isRight && tried(kind, quiet, with).equals(want) && asked.digest() == model.digest();
+                isRight = isRight && tried(quiet, kind, with).equals(want) && asked.digest() == model.digest();
             }
             if (!isRight) {
-                Check.isText("run " + run + ", call " + k + ", kind " + kind + " " + java.util.Arrays.toString(with), got, want);
+                Check.isText("run " + run + ", call " + k + ", kind " + kind + " " + Arrays.toString(with), got, want);
                 return false;
             }
         }
@@ -192,121 +205,34 @@ final class ModelTest {
         }
     }
 
-    /** The answer, or the name of what is thrown; of the model, if there is no object. */
-    private String tried(int kind, Publicanry p, int[] with) {
+    /** The answer, or the name of what is thrown. */
+    private static String tried(Object of, int kind, int[] with) {
+        Method call = of instanceof Model ? OF_MODEL[kind] : OF_CLASS[kind];
+        Class<?>[] types = call.getParameterTypes();
+        Object[] arguments = new Object[types.length];
+        for (int k = 0; k < types.length; k++) {
+            arguments[k] = types[k] == boolean.class ? (Object) (with[k] == 1) : (Object) with[k];
+        }
         try {
-            if (p == null) {
-                return kind < TELLING ? "" + toldToModel(kind, with) : askedOfModel(kind, with);
+            return "" + call.invoke(of, arguments);
+        } catch (InvocationTargetException thrown) {
+            Class<?> what = thrown.getCause().getClass();
+            boolean isOfTheFace = Arrays.asList(call.getExceptionTypes()).contains(what) || of instanceof Model;
+            return what.getName() + (isOfTheFace ? "" : ", which this call does not tell");
+        } catch (IllegalAccessException hidden) {
+            return "it cannot be called";
+        }
+    }
+
+    /** The methods with these names: of the model those that stand for a call of the face are not private. */
+    private static Method[] methodsOf(Class<?> of) {
+        Method[] methods = new Method[CALLS_OF_FACE.length];
+        for (Method one : of.getDeclaredMethods()) {
+            int kind = List.of(CALLS_OF_FACE).indexOf(one.getName());
+            if (kind >= 0 && !Modifier.isPrivate(one.getModifiers())) {
+                methods[kind] = one;
             }
-            return kind < TELLING ? "" + told(kind, p, with) : askedOf(kind, p, with);
-        } catch (RuntimeException thrown) {
-            return thrown.getClass().getName();
         }
-    }
-
-    private static long told(int kind, Publicanry p, int[] a) {
-        switch (kind) {
-            case 0: return p.village(a[0], a[1], a[2], a[3]);
-            case 1: return p.clear(a[0], a[1]);
-            case 2: return p.survey(a[0]);
-            case 3: return p.war(a[0]);
-            case 4: return p.edict(a[0], a[1], a[2]);
-            case 5: return p.cut(a[0]);
-            case 6: return p.company(a[0], a[1]);
-            case 7: return p.join(a[0], a[1]);
-            case 8: return p.shareOut(a[0], a[1]);
-            case 9: return p.ring(a[0], a[1]);
-            case 10: return p.lot(a[0], a[1], a[2], a[3]);
-            case 11: return p.bid(a[0], a[1], a[2]);
-            case 12: return p.award(a[0]);
-            case 13: return p.force(a[0], a[1]);
-            case 14: return p.letOn(a[0], a[1], a[2]);
-            case 15: return p.deliver(a[0], a[1]);
-            case 16: return p.sue(a[0], a[1]);
-            case 17: return p.bench(a[0]);
-            case 18: return p.gift(a[0], a[1]);
-            case 19: return p.quarter(a[0]);
-            case 20: return p.remit(a[0]);
-            case 21: return p.recall();
-            case 22: return p.clerks(a[0], a[1] == 1) ? 1 : 0;
-            case 23: return p.call();
-            case 24: return p.pass(a[0]);
-            default: return p.ofVillage(a[0], a[1]);
-        }
-    }
-
-    private long toldToModel(int kind, int[] a) {
-        switch (kind) {
-            case 0: return model.village(a[0], a[1], a[2], a[3]);
-            case 1: return model.clear(a[0], a[1]);
-            case 2: return model.survey(a[0]);
-            case 3: return model.war(a[0]);
-            case 4: return model.edict(a[0], a[1], a[2]);
-            case 5: return model.cut(a[0]);
-            case 6: return model.company(a[0], a[1]);
-            case 7: return model.join(a[0], a[1]);
-            case 8: return model.shareOut(a[0], a[1]);
-            case 9: return model.ring(a[0], a[1]);
-            case 10: return model.lot(a[0], a[1], a[2], a[3]);
-            case 11: return model.bid(a[0], a[1], a[2]);
-            case 12: return model.award(a[0]);
-            case 13: return model.force(a[0], a[1]);
-            case 14: return model.letOn(a[0], a[1], a[2]);
-            case 15: return model.deliver(a[0], a[1]);
-            case 16: return model.sue(a[0], a[1]);
-            case 17: return model.bench(a[0]);
-            case 18: return model.gift(a[0], a[1]);
-            case 19: return model.quarter(a[0]);
-            case 20: return model.remit(a[0]);
-            case 21: return model.recall();
-            case 22: return model.clerks(a[0], a[1] == 1) ? 1 : 0;
-            case 23: return model.call();
-            case 24: return model.pass(a[0]);
-            default: return model.ofVillage(a[0], a[1]);
-        }
-    }
-
-    private static String askedOf(int kind, Publicanry p, int[] a) {
-        switch (kind) {
-            case 26: return "" + p.due(a[0], a[1], a[2] == 1);
-            case 27: return "" + p.levy(a[0], a[1], a[2]);
-            case 28: return "" + p.law(a[0], a[1]);
-            case 29: return "" + p.ofCompany(a[0], a[1]);
-            case 30: return "" + p.partner(a[0], a[1], a[2] == 1);
-            case 31: return "" + p.ofLot(a[0], a[1]);
-            case 32: return "" + p.land(a[0]);
-            case 33: return p.tell(a[0]);
-            case 34: return "" + p.gain(a[0]);
-            case 35: return "" + p.wouldBring(a[0], a[1]);
-            case 36: return "" + p.bestForce(a[0]);
-            case 37: return "" + p.votes(a[0], a[1], a[2], a[3]);
-            case 38: return "" + p.harvest(a[0], a[1]);
-            case 39: return "" + p.direct(a[0]);
-            case 40: return "" + p.wouldWin(a[0]);
-            case 41: return "" + p.isSound();
-            default: return "" + p.digest();
-        }
-    }
-
-    private String askedOfModel(int kind, int[] a) {
-        switch (kind) {
-            case 26: return "" + model.due(a[0], a[1], a[2] == 1);
-            case 27: return "" + model.levy(a[0], a[1], a[2]);
-            case 28: return "" + model.law(a[0], a[1]);
-            case 29: return "" + model.ofCompany(a[0], a[1]);
-            case 30: return "" + model.partner(a[0], a[1], a[2] == 1);
-            case 31: return "" + model.ofLot(a[0], a[1]);
-            case 32: return "" + model.land(a[0]);
-            case 33: return model.tell(a[0]);
-            case 34: return "" + model.gain(a[0]);
-            case 35: return "" + model.wouldBring(a[0], a[1]);
-            case 36: return "" + model.bestForce(a[0]);
-            case 37: return "" + model.votes(a[0], a[1], a[2], a[3]);
-            case 38: return "" + model.harvest(a[0], a[1]);
-            case 39: return "" + model.direct(a[0]);
-            case 40: return "" + model.wouldWin(a[0]);
-            case 41: return "" + model.isSound();
-            default: return "" + model.digest();
-        }
+        return methods;
     }
 }
